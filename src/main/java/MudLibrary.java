@@ -25,7 +25,8 @@ public final class MudLibrary {
     private final Sheets sheets = new Sheets();
 
     public MudLibrary() {
-        rules.begin();
+        rules.takeTextZero();
+        rules.readText();
     }
 
     // ---- hours
@@ -982,11 +983,10 @@ public final class MudLibrary {
         private int texts;
         private int rule;
 
-        void begin() {
+        void takeTextZero() {
             for (int k = 0; k < TEXT_0.length(); k++) {
                 reader.takeByte(TEXT_0.charAt(k));
             }
-            readText();
         }
 
         int readText() {
