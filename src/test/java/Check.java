@@ -11,6 +11,11 @@ final class Check {
         promise = "promise " + number + ": ";
     }
 
+    /** The document's own words that the next answers hold the program to. */
+    static void sentence(String words) {
+        promise = "\"" + words + "\": ";
+    }
+
     static void due(String call, long got, long want) {
         if (got == want) {
             right++;
@@ -40,6 +45,28 @@ final class Check {
     static int text(MudLibrary x, String text) {
         feed(x, text);
         return x.text();
+    }
+
+    /** An object with so many BOOKS of one look, of WORTH 10. */
+    static MudLibrary withBooks(int number, int look) {
+        MudLibrary x = new MudLibrary();
+        for (int k = 0; k < number; k++) {
+            x.book(look, 10);
+        }
+        return x;
+    }
+
+    static void passAll(MudLibrary x, int hours) {
+        for (int left = hours; left > 0; left -= 100) {
+            x.pass(Math.min(100, left));
+        }
+    }
+
+    /** THE RULE is a TEXT of these parts: its number. */
+    static int rule(MudLibrary x, String first, String may, String value) {
+        int text = text(x, "first " + first + ";may " + may + ";value " + value + ";");
+        x.force(text);
+        return text;
     }
 
     static void end(String name) {

@@ -23,17 +23,11 @@ public final class PromiseTest {
     }
 
     private static MudLibrary withBooks(int number, int look) {
-        MudLibrary x = new MudLibrary();
-        for (int k = 0; k < number; k++) {
-            x.book(look, 10);
-        }
-        return x;
+        return Check.withBooks(number, look);
     }
 
     private static void passAll(MudLibrary x, int hours) {
-        for (int left = hours; left > 0; left -= 100) {
-            x.pass(Math.min(100, left));
-        }
+        Check.passAll(x, hours);
     }
 
     private static void hoursAndBooks() {
