@@ -1105,6 +1105,8 @@ public final class MudLibrary {
     /** In which order told books are put to dry. Each turn has a stock of its own, so nothing changes. */
     private static final class Lots {
         static final int MOST = 5;
+        private static final int MOST_THOUSANDS = 2147483647;
+        private static final long MORE_THAN_ALL = 9223372036854775807L;
 
         private final Stock[] beside = new Stock[MOST + 1];
         private final int[] order = new int[MOST];
@@ -1122,7 +1124,7 @@ public final class MudLibrary {
         void plan(Stock stock, Rules rules, int books, int hours) {
             this.rules = rules;
             this.hours = hours;
-            bestLost = Long.MAX_VALUE;
+            bestLost = MORE_THAN_ALL;
             beside[0].becomeLike(stock);
             takeTurns(this, 0, books);
         }
@@ -1154,7 +1156,7 @@ public final class MudLibrary {
         }
 
         int lostInThousands() {
-            return (int) Math.min(Integer.MAX_VALUE, bestLost / 1000);
+            return (int) Math.min(MOST_THOUSANDS, bestLost / 1000);
         }
 
         int bookAt(int i) {

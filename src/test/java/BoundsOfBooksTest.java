@@ -16,6 +16,7 @@ public final class BoundsOfBooksTest {
         looks();
         worths();
         startOfBooks();
+        toldNumbers();
         since();
         mouldGrows();
         mouldGrowsInHours();
@@ -210,6 +211,24 @@ public final class BoundsOfBooksTest {
         due("STATE of the new one", x.bookTold(1, 0), WET);
         due("MOULD of the old one", x.bookTold(0, 5), 120);
         due("HARM of the old one", x.bookTold(0, 6), 21);
+    }
+
+    private static void toldNumbers() {
+        Check.sentence("Of a BOOK: 0 STATE .. 11 by how much HARM grows. BAD");
+        MudLibrary x = Check.withBooks(2, 10);
+        for (int what : new int[] {-1, 12, LOW, HIGH}) {
+            due("bookTold(0, " + what + ")", x.bookTold(0, what), BAD);
+            due("bookTold(2, " + what + ")", x.bookTold(2, what), BAD);
+        }
+        for (int book : new int[] {-1, 2, 24, LOW, HIGH}) {
+            for (int what = 0; what <= 11; what++) {
+                due("bookTold(" + book + ", " + what + ")", x.bookTold(book, what), BAD);
+            }
+            due("left(" + book + ")", x.left(book), BAD);
+            due("move(" + book + ", 3)", x.move(book, DRYING), BAD);
+            due("says(" + book + ", 0)", x.says(book, 0), NO);
+            due("lost(" + book + ")", x.lost(book), book == -1 ? 0 : NO);
+        }
     }
 
     private static void since() {

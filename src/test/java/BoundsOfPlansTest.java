@@ -12,6 +12,7 @@ public final class BoundsOfPlansTest {
         lotsTheFirstAtOnce();
         lotsTurnGoesBy();
         lotsEndOfHours();
+        lotsByHeat();
         lotsOfAllBooks();
         lotsOfLikeOnes();
         lotsTheRuleAsItIs();
@@ -164,6 +165,26 @@ public final class BoundsOfPlansTest {
                 long harm = 45 + 7 * n * turns;
                 due(turns + " turns of " + n, x.lots((1 << turns) - 1, n, -1), 3 * (999900 * harm / 100) / 1000);
             }
+        }
+    }
+
+    private static void lotsByHeat() {
+        Check.sentence("BESIDE all HOURS then go by (HEAT, ROOM as they are)");
+        int[] heats = {0, 9, 10, 20, 30, 40};
+        for (int heat : heats) {
+            MudLibrary x = Check.withBooks(1, 10);
+            Check.rule(x, "1", "1", "9999*100");
+            x.set(0, 10);
+            x.pass(20);
+            x.move(0, 2);
+            x.move(0, 1);
+            x.set(0, heat);
+            x.set(2, 0);
+            // MOULD is 60: by 4 an HOUR it is 100 in 10 HOURS, by 5 in 8, by 6 (102) in 7; WET ones are harmed by 3.
+            long harm = heat < 20 ? 0 : heat == 20 ? 3 : heat == 30 ? 9 : 12;
+            due("HEAT " + heat, x.lots(1, 10, -1), 999900 * harm / 100 / 1000);
+            x.set(2, 20);
+            due("none by DRYING at HEAT " + heat, x.lots(1, 10, -1), 0);
         }
     }
 
@@ -485,6 +506,15 @@ public final class BoundsOfPlansTest {
         x.gap(0, marks(11, 5, 0, 5, 5));
         // GAP 1: 3 with LEAF 0 and 1, 2 with LEAF 2; GAP 0: 1 with each.
         join(x, 4, 0, 1, NONE);
+        x = Check.withBooks(1, 1);
+        x.leaf(9999);
+        x.leaf(1111);
+        x.leaf(9999);
+        x.leaf(2222);
+        x.gap(0, marks(11, 1, 1, 10, 10));
+        x.gap(0, marks(11, 2, 2, 2, 10));
+        // LEAF 0 and 2 have none, those behind them do.
+        join(x, 5, NONE, 0, NONE, 1);
     }
 
     private static void joinedSix() {
@@ -592,6 +622,8 @@ public final class BoundsOfPlansTest {
         x.list(2, 2, 5);
         due("least: 2 less 3", x.were(2, 0, 2), 0);
         due("most: 5 less 3", x.were(2, 0, 3), 2);
+        due("the least itself", x.were(2, 0, 0), 2);
+        due("the most itself", x.were(2, 0, 1), 5);
         x.list(2, 4, 4);
         due("least: 4 less 3", x.were(2, 0, 2), 1);
         due("most: 4 less 3", x.were(2, 0, 3), 1);
@@ -893,6 +925,15 @@ public final class BoundsOfPlansTest {
         x.sheet(2, -1, 0);
         x.sheet(2, 0, 4);
         due("all 0 of another sort", x.books(2, 0, 0, 2), 0);
+        for (int sort = 0; sort <= 2; sort++) {
+            for (int n = 2; n <= 40; n += 38) {
+                x = new MudLibrary();
+                x.sheet(3, sort, n);
+                x.cell(3, n - 2, 1);
+                due("a BOOK by a row of " + n, x.books(3, sort, n - 2, 1), 1);
+                due("its WORTH is 0", x.bookTold(0, 4), 0);
+            }
+        }
     }
 
     /** What item 0 of a SHEET is, told by the WORTH of a BOOK (0 .. 999), or NONE. */

@@ -30,6 +30,7 @@ public final class BoundsOfTextsTest {
         openOnesEnd();
         openOnesOfAllSorts();
         sixTexts();
+        manyFaults();
         textZero();
         namesOfABook();
         force();
@@ -168,17 +169,33 @@ public final class BoundsOfTextsTest {
             faultInE(name.substring(1), 0);
             faultInE(name.substring(0, name.length() - 1), 0);
             faultInE("1+" + name.toUpperCase(), 2);
+            for (int k = 0; k < name.length(); k++) {
+                faultInE(name.substring(0, k) + "x" + name.substring(k + 1), 0);
+            }
             faultInE(name + " " + name, name.length() + 1);
         }
         for (String key : new String[] {"first", "may", "value", "or", "and"}) {
             faultInE(key, 0);
             faultInE("1 " + key + "s", 2);
             faultInE("1+" + key, 2);
+            for (int k = 0; k < key.length(); k++) {
+                faultInE("1 " + key.substring(0, k) + "x" + key.substring(k + 1) + " 1", 2);
+            }
         }
         for (String word : new String[] {"firs", "firsts", "frist", "a", "z", "abcdefghijklmnopqrstuvwxyz", "m", "o"}) {
             fault(word + " 1" + REST, 0);
             faultInE(word, 0);
         }
+        for (String key : new String[] {"not ", "-", "("}) {
+            faultInE(key + "x1", key.length());
+            faultInE(key + "x(1)", key.length());
+            faultInE(key + "x 1)", key.length());
+            faultInE(key + "12345", key.length());
+            faultInE(key + "?1", key.length());
+        }
+        fault("xirst 1;may 1;value 1;", 0);
+        fault("first 1;xay 1;value 1;", 8);
+        fault("first 1;may 1;xalue 1;", 14);
         fault("first 1;ma 1;value 1;", 8);
         fault("first 1;may 1;values 1;", 14);
         faultInE("moul{", 0);
@@ -468,6 +485,27 @@ public final class BoundsOfTextsTest {
         for (int k = 1; k <= 5; k++) {
             x.force(k);
             due("TEXT " + k + " is told still", x.says(0, 0), k);
+        }
+    }
+
+    private static void manyFaults() {
+        Check.sentence("THE TAPE, which is empty then (by a FAULT, too)");
+        MudLibrary x = Check.withBooks(1, 10);
+        String most = "first 1;may 1;value 1" + "+1".repeat(69);
+        for (int k = 0; k < 12; k++) {
+            due("a long bad one", Check.text(x, most), -259);
+            due("an empty TAPE", x.text(), -100);
+            due("one that is open", Check.text(x, "first ((((("), -111);
+        }
+        for (int k = 1; k <= 5; k++) {
+            due("a long good one", Check.text(x, most.substring(0, 158) + k + ";"), k);
+            x.force(k);
+            due("first", x.says(0, 0), 1);
+            due("value", x.says(0, 2), 69 + k);
+            if (k < 5) {
+                due("a bad one", Check.text(x, most), -259);
+                due("THE TAPE", x.count(3), 0);
+            }
         }
     }
 

@@ -11,7 +11,7 @@ public final class LanguageTest {
         "assert", "->", "::", "import (?!java\\.util\\.Arrays;|java\\.util\\.ArrayList;|java\\.util\\.List;)", "Random",
         "Thread", "System\\.(?!arraycopy)", "Object\\b", "hashCode", "toString", "static (?!final|class)[\\w\\[\\]]+ \\w+ =",
         "protected", "native", "volatile", "HashMap", "Map\\b", "Exact\\b", "\\.class\\b", "getClass", "@", "package ",
-        "var ", "\\.\\.\\.", "Stream", "Optional", "\"\\s*\\+", "\\+\\s*\"");
+        "MAX_VALUE", "MIN_VALUE", "var ", "\\.\\.\\.", "Stream", "Optional", "\"\\s*\\+", "\\+\\s*\"");
     private static final int MOST_LINES = 60, MOST_CLASSES = 12, MOST_PARAMETERS = 7, MOST_FIELDS = 20;
 
     private LanguageTest() {
