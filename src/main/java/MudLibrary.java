@@ -898,15 +898,11 @@ public final class MudLibrary {
             }
         }
 
+        /** What is opened here ends with what stands behind it, the last one first. */
         private void notOrCompared() {
-            if (token == NOT) {
-                if (opens()) {
-                    advance();
-                    notOrCompared();
-                    open--;
-                    step(NOT_STEP);
-                }
-                return;
+            int before = open;
+            for (int k = 0; k <= MOST_OPEN && token == NOT && opens(); k++) {
+                advance();
             }
             sum();
             if (token == '<' || token == '=') {
@@ -914,6 +910,9 @@ public final class MudLibrary {
                 advance();
                 sum();
                 step(compares);
+            }
+            for (; open > before; open--) {
+                step(NOT_STEP);
             }
         }
 
@@ -937,6 +936,10 @@ public final class MudLibrary {
         }
 
         private void one() {
+            int before = open;
+            for (int k = 0; k <= MOST_OPEN && token == '-' && opens(); k++) {
+                advance();
+            }
             switch (token) {
                 case NUMBER:
                     step(value);
@@ -945,14 +948,6 @@ public final class MudLibrary {
                 case NAME:
                     step(-1 - value);
                     advance();
-                    break;
-                case '-':
-                    if (opens()) {
-                        advance();
-                        one();
-                        open--;
-                        step(MINUS_STEP);
-                    }
                     break;
                 case '(':
                     if (opens()) {
@@ -964,6 +959,9 @@ public final class MudLibrary {
                     break;
                 default:
                     refuse();
+            }
+            for (; open > before; open--) {
+                step(MINUS_STEP);
             }
         }
     }

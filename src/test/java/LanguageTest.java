@@ -28,6 +28,7 @@ public final class LanguageTest {
         }
         Check.isTrue("signs are 1 to 127", text.chars().allMatch(c -> c > 0 && c < 128));
         methods(code);
+        selfCalls(code);
         classes(code);
         face(code);
         Check.end("LanguageTest");
@@ -43,6 +44,20 @@ public final class LanguageTest {
             Check.isTrue(m.group(2) + " takes few parameters", m.group(3).split(",").length <= MOST_PARAMETERS);
         }
         Check.isTrue("methods are seen: " + methods, methods > 100);
+    }
+
+    /** LANGUAGE.md, 8: what calls itself is private and static; private methods of an object call one another. */
+    private static void selfCalls(String code) {
+        Matcher m = Pattern.compile("(?m)^( {4,8})((?:public |private |static )*)[\\w\\[\\]]+ (\\w+)\\([^)]*\\) \\{$(?s)(.*?)^\\1\\}$")
+            .matcher(code);
+        int selfCalling = 0;
+        while (m.find()) {
+            if (Pattern.compile("(?<![\\w.])" + m.group(3) + "\\(").matcher(m.group(4)).find()) {
+                selfCalling++;
+                Check.due(m.group(3) + " calls itself and is private and static", m.group(2).equals("private static ") ? 1 : 0, 1);
+            }
+        }
+        Check.due("methods that call themselves", selfCalling, 2);
     }
 
     private static void classes(String code) {
